@@ -1,0 +1,263 @@
+/** Promises 18 to 24: near, nearest, apart, groups, group, middle, fewest. */
+public final class AskedTest {
+    private static final int[] WRONG = {Integer.MIN_VALUE, -1, Integer.MAX_VALUE};
+
+    public static void main(String[] args) {
+        promise18();
+        promise19();
+        promise20();
+        promise21();
+        promise22();
+        promise23();
+        promise24();
+        promise24ofThreeCuts();
+        nothingChangesByAsking();
+        Check.end();
+    }
+
+    private static void promise18() {
+        // From 0 they are apart by 0, 1, 2, 3, 4 and 64.
+        NearMarks x = Make.with(0x0L, 0x1L, 0x3L, 0x7L, 0xFL, -1L);
+        Check.due("near(0)", x.near(0), 0x1L);
+        Check.due("near(3)", x.near(3), 0xFL);
+        Check.due("near(63)", x.near(63), 0x1FL);
+        Check.due("near(64)", x.near(64), 0x3FL);
+        for (int k = 0; k < 6; k++) {
+            x.kind(k, 1);
+        }
+        Check.due("near(64) of shunned ones", x.near(64), 0L);
+        for (int k = 0; k < 6; k++) {
+            x.kind(k, 2);
+        }
+        Check.due("near(0) of sought ones", x.near(0), 0x1L);
+        Check.due("near(1) of sought ones", x.near(1), 0x1L);
+        Check.due("near(2) of sought ones", x.near(2), 0x3L);
+        Check.due("near(3), the reach", x.near(3), 0xFL);
+        Check.due("near(4)", x.near(4), 0x1FL);
+        x.cut(0x0101_0101_0101_0101L);
+        Check.due("near(6) under the reach", x.near(6), 0xFL);
+        Check.due("near(5) under the reach", x.near(5), 0x7L);
+        Check.due("near(7), the reach", x.near(7), 0x1FL);
+        x.cut(1L);
+        Check.due("near(0), the reach", x.near(0), 0x1L);
+        Check.due("near(1), over the reach", x.near(1), 0x3L);
+        Check.due("near(65)", x.near(65), 0L);
+        for (int b : WRONG) {
+            Check.due("near(" + b + ")", x.near(b), 0L);
+        }
+        NearMarks full = Make.full();
+        Check.due("near(64) of 40", full.near(64), (1L << 40) - 1);
+    }
+
+    private static void promise19() {
+        NearMarks x = Make.with(0xFFL, 0x3L, 0x5L, 0x0L, 0x1L, 0x6L);
+        x.kind(3, 1);
+        int[] due = {3, 4, 1, 2, 5, 0};
+        for (int k = 0; k < due.length; k++) {
+            Check.due("nearest(" + k + ")", x.nearest(k), due[k]);
+        }
+        Check.due("nearest(6)", x.nearest(6), NearMarks.NONE);
+        for (int k : WRONG) {
+            Check.due("nearest(" + k + ")", x.nearest(k), NearMarks.NONE);
+        }
+        x.hold(0);
+        int[] then = {0, 1, 2, 5, 4, 3};
+        for (int k = 0; k < then.length; k++) {
+            Check.due("nearest(" + k + ") of another", x.nearest(k), then[k]);
+        }
+    }
+
+    private static void promise20() {
+        NearMarks x = Make.with(0x0L, 0x3L, -1L);
+        Check.due("apart(0, 1)", x.apart(0, 1), 2);
+        Check.due("apart(1, 0)", x.apart(1, 0), 2);
+        Check.due("apart(0, 2)", x.apart(0, 2), 64);
+        Check.due("apart(2, 1)", x.apart(2, 1), 62);
+        Check.due("apart(1, 1), one twice", x.apart(1, 1), NearMarks.UNKNOWN);
+        Check.due("apart(0, 3)", x.apart(0, 3), NearMarks.UNKNOWN);
+        Check.due("apart(3, 0)", x.apart(3, 0), NearMarks.UNKNOWN);
+        for (int k : WRONG) {
+            Check.due("apart(" + k + ", 0)", x.apart(k, 0), NearMarks.UNKNOWN);
+            Check.due("apart(0, " + k + ")", x.apart(0, k), NearMarks.UNKNOWN);
+            Check.due("apart(" + k + ", " + k + ")", x.apart(k, k), NearMarks.UNKNOWN);
+        }
+    }
+
+    /** Two chains, each of steps of 2, that are joined from their ends to their begins. */
+    private static NearMarks chains() {
+        NearMarks x = Make.with(0xFFL, 0xFF00L, 0x3FFL, 0xFF03L, 0xFFFL, 0xFF0000000000L);
+        x.kind(1, 1);
+        x.kind(2, 2);
+        return x;
+    }
+
+    private static void promise21() {
+        NearMarks x = chains();
+        Check.due("groups(0)", x.groups(0), 6);
+        Check.due("groups(1)", x.groups(1), 6);
+        Check.due("groups(2)", x.groups(2), 3);
+        Check.due("groups(9)", x.groups(9), 3);
+        Check.due("groups(10)", x.groups(10), 2);
+        Check.due("groups(15)", x.groups(15), 2);
+        Check.due("groups(16)", x.groups(16), 1);
+        Check.due("groups(64)", x.groups(64), 1);
+        Check.due("groups(65)", x.groups(65), NearMarks.OUTSIDE);
+        for (int b : WRONG) {
+            Check.due("groups(" + b + ")", x.groups(b), NearMarks.OUTSIDE);
+        }
+        Check.due("groups(0) of 40", Make.full().groups(0), 40);
+    }
+
+    private static void promise22() {
+        NearMarks x = chains();
+        long[][] due = {{3, 0, 4}, {2, 1, 2}, {1, 5, 0}};
+        for (int g = 0; g < due.length; g++) {
+            for (int what = 0; what < 3; what++) {
+                Check.due("group(2, " + g + ", " + what + ")", x.group(2, g, what), due[g][what]);
+            }
+            Check.due("group(2, " + g + ", 3)", x.group(2, g, 3), NearMarks.OUTSIDE);
+            Check.due("group(2, " + g + ", -1)", x.group(2, g, -1), NearMarks.OUTSIDE);
+        }
+        Check.due("group(64, 0, 0)", x.group(64, 0, 0), 6);
+        Check.due("group(64, 0, 2)", x.group(64, 0, 2), 20);
+        Check.due("group(2, 3, 0)", x.group(2, 3, 0), NearMarks.UNKNOWN);
+        Check.due("group(2, 3, 9)", x.group(2, 3, 9), NearMarks.UNKNOWN);
+        Check.due("group(65, 9, 9)", x.group(65, 9, 9), NearMarks.OUTSIDE);
+        Check.due("group(-1, 0, 0)", x.group(-1, 0, 0), NearMarks.OUTSIDE);
+        for (int number : WRONG) {
+            Check.due("group(" + number + ", 9, 0)", x.group(number, 9, 0), NearMarks.OUTSIDE);
+            Check.due("group(2, " + number + ", 9)", x.group(2, number, 9), NearMarks.UNKNOWN);
+        }
+        longChain();
+    }
+
+    /** A chain whose marks are put in far out of its order. */
+    private static void longChain() {
+        NearMarks x = new NearMarks();
+        for (int m = 0; m < 32; m++) {
+            int step = (m * 21 + 5) % 32;
+            Make.put(x, (1L << 2 * step) - 1, 0);
+        }
+        Check.due("groups(1) of a chain", x.groups(1), 32);
+        Check.due("groups(2) of a chain", x.groups(2), 1);
+        Check.due("group(2, 0, 2) of a chain", x.group(2, 0, 2), 62);
+    }
+
+    private static void promise23() {
+        NearMarks x = chains();
+        Check.due("middle(2, 0)", x.middle(2, 0), 0x3FFL);
+        Check.due("middle(2, 1), 0 if just half", x.middle(2, 1), 0xFF00L);
+        Check.due("middle(2, 2)", x.middle(2, 2), 0xFF0000000000L);
+        Check.due("middle(64, 0)", x.middle(64, 0), 0x303L);
+        Check.due("middle(2, 3)", x.middle(2, 3), 0L);
+        Check.due("middle(65, 0)", x.middle(65, 0), 0L);
+        for (int number : WRONG) {
+            Check.due("middle(" + number + ", 0)", x.middle(number, 0), 0L);
+            Check.due("middle(2, " + number + ")", x.middle(2, number), 0L);
+        }
+        NearMarks most = Make.with(-1L, -2L, -4L);
+        Check.due("middle(2, 0) with the sign", most.middle(2, 0), -2L);
+    }
+
+    private static void promise24() {
+        NearMarks x = Make.with(0x0L, 0x1L, -1L);
+        x.kind(1, 1);
+        Check.due("fewest(1, 0)", x.fewest(1, 0), 3);
+        Check.due("fewest(1, 1)", x.fewest(1, 1), 0);
+        Check.due("fewest(2, 0)", x.fewest(2, 0), 5);
+        Check.due("fewest(8, 0)", x.fewest(8, 0), 5);
+        Check.due("fewest(8, 1)", x.fewest(8, 1), 0);
+        Check.due("fewest(0, 0)", x.fewest(0, 0), NearMarks.OUTSIDE);
+        Check.due("fewest(9, 0)", x.fewest(9, 0), NearMarks.OUTSIDE);
+        Check.due("fewest(1, 2)", x.fewest(1, 2), NearMarks.OUTSIDE);
+        for (int number : WRONG) {
+            Check.due("fewest(" + number + ", 0)", x.fewest(number, 0), NearMarks.OUTSIDE);
+            Check.due("fewest(1, " + number + ")", x.fewest(1, number), NearMarks.OUTSIDE);
+        }
+        Check.due("told(1) after it", x.told(1), 4);
+    }
+
+    /**
+     * For each way to cut two marks that differ in one bit of each of its parts, so that this way
+     * alone does not look at one for the other.
+     */
+    private static void promise24ofThreeCuts() {
+        for (int p : new int[] {3, 5, 6, 7}) {
+            for (int way = 0; way < 3; way++) {
+                NearMarks x = Make.with(0x0L, onlyUnlikeBy(p, way));
+                Check.due("fewest(" + p + ", 0) by " + way, x.fewest(p, 0), 2);
+                int least = way == 2 && areOneCut(p, 0, 2) ? 0 : way;
+                Check.due("fewest(" + p + ", 1) by " + way, x.fewest(p, 1), least);
+            }
+        }
+        NearMarks alike = Make.with(0x0L, 0x1L);
+        Check.due("fewest(7, 1) of like ones", alike.fewest(7, 1), 0);
+        Check.due("fewest(7, 0) of like ones", alike.fewest(7, 0), 4);
+    }
+
+    /** Bits, one in each part of this cut, that leave a part of each other cut untouched. */
+    private static long onlyUnlikeBy(int p, int way) {
+        for (int shape = 0; shape < 1 << p; shape++) {
+            long bits = 0L;
+            for (int part = 0; part < p; part++) {
+                int first = beginOf(p, way, part);
+                int last = beginOf(p, way, part + 1) - 1;
+                bits |= 1L << ((shape >> part & 1) == 0 ? first : last);
+            }
+            boolean only = true;
+            for (int other = 0; other < 3; other++) {
+                only &= areOneCut(p, way, other) || hasUntouched(p, other, bits);
+            }
+            if (only) {
+                return bits;
+            }
+        }
+        Check.holds("there are marks for " + p + " parts, way " + way, false);
+        return 1L;
+    }
+
+    /** With one bit left over the first part has it both by way 0 and by way 2. */
+    private static boolean areOneCut(int p, int way, int other) {
+        return way == other || 64 % p == 1 && way != 1 && other != 1;
+    }
+
+    private static boolean hasUntouched(int p, int way, long bits) {
+        for (int part = 0; part < p; part++) {
+            boolean touched = false;
+            for (int bit = beginOf(p, way, part); bit < beginOf(p, way, part + 1); bit++) {
+                touched |= (bits >>> bit & 1L) != 0;
+            }
+            if (!touched) {
+                return true;
+            }
+        }
+        return false;
+    }
+
+    /** The begins of the cuts that are not alike, written out by hand from the document. */
+    private static int beginOf(int p, int way, int part) {
+        int[][] three = {{0, 22, 43, 64}, {0, 21, 42, 64}, {0, 22, 43, 64}};
+        int[][] five = {{0, 13, 26, 39, 52, 64}, {0, 12, 25, 38, 51, 64}, {0, 13, 26, 39, 51, 64}};
+        int[][] six = {{0, 11, 22, 33, 44, 54, 64}, {0, 10, 20, 31, 42, 53, 64}, {0, 11, 22, 33, 43, 54, 64}};
+        int[][] seven = {{0, 10, 19, 28, 37, 46, 55, 64}, {0, 9, 18, 27, 36, 45, 54, 64},
+            {0, 10, 19, 28, 37, 46, 55, 64}};
+        int[][] cuts = p == 3 ? three : p == 5 ? five : p == 6 ? six : seven;
+        return cuts[way][part];
+    }
+
+    private static void nothingChangesByAsking() {
+        NearMarks x = chains();
+        x.see(8);
+        x.write(0, 1, 3);
+        x.cut(0x10101L);
+        String before = Make.picture(x);
+        x.near(5);
+        x.nearest(2);
+        x.apart(0, 1);
+        x.groups(2);
+        x.group(2, 0, 2);
+        x.middle(2, 0);
+        x.fewest(7, 0);
+        Check.holds("nothing changes by asking", Make.picture(x).equals(before));
+    }
+}
