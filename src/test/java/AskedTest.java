@@ -101,6 +101,7 @@ public final class AskedTest {
         Check.due("groups(15)", x.groups(15), 2);
         Check.due("groups(16)", x.groups(16), 1);
         Check.due("groups(64)", x.groups(64), 1);
+        Check.due("groups(1) again", x.groups(1), 6);
         Check.due("groups(65)", x.groups(65), NearMarks.OUTSIDE);
         for (int b : WRONG) {
             Check.due("groups(" + b + ")", x.groups(b), NearMarks.OUTSIDE);
@@ -178,42 +179,55 @@ public final class AskedTest {
     }
 
     /**
-     * For each way to cut two marks that differ in one bit of each of its parts, so that this way
-     * alone does not look at one for the other.
+     * For each way to cut: marks that differ in one bit of each of its parts, but leave a part of
+     * each other cut alike, so that by this way alone one is not looked at for the other.
      */
     private static void promise24ofThreeCuts() {
         for (int p : new int[] {3, 5, 6, 7}) {
             for (int way = 0; way < 3; way++) {
-                NearMarks x = Make.with(0x0L, onlyUnlikeBy(p, way));
-                Check.due("fewest(" + p + ", 0) by " + way, x.fewest(p, 0), 2);
-                int least = way == 2 && areOneCut(p, 0, 2) ? 0 : way;
-                Check.due("fewest(" + p + ", 1) by " + way, x.fewest(p, 1), least);
+                int found = 0;
+                for (int shape = 0; shape < 1 << p; shape++) {
+                    long bits = firstOrLastBits(p, way, shape);
+                    if (othersHaveUntouched(p, way, bits)) {
+                        found++;
+                        fewestIs(p, way, bits);
+                    }
+                }
+                Check.holds("there are marks for " + p + " parts, way " + way, found > 0);
             }
         }
         NearMarks alike = Make.with(0x0L, 0x1L);
         Check.due("fewest(7, 1) of like ones", alike.fewest(7, 1), 0);
         Check.due("fewest(7, 0) of like ones", alike.fewest(7, 0), 4);
+        NearMarks ones = Make.with(-1L, -2L, 0xFFL);
+        Check.due("fewest(2, 0), parts of ones alike", ones.fewest(2, 0), 5);
+        Check.due("fewest(8, 0), parts of ones alike", ones.fewest(8, 0), 7);
     }
 
-    /** Bits, one in each part of this cut, that leave a part of each other cut untouched. */
-    private static long onlyUnlikeBy(int p, int way) {
-        for (int shape = 0; shape < 1 << p; shape++) {
-            long bits = 0L;
-            for (int part = 0; part < p; part++) {
-                int first = beginOf(p, way, part);
-                int last = beginOf(p, way, part + 1) - 1;
-                bits |= 1L << ((shape >> part & 1) == 0 ? first : last);
-            }
-            boolean only = true;
-            for (int other = 0; other < 3; other++) {
-                only &= areOneCut(p, way, other) || hasUntouched(p, other, bits);
-            }
-            if (only) {
-                return bits;
+    private static void fewestIs(int p, int way, long bits) {
+        NearMarks x = Make.with(0x0L, bits);
+        int least = way == 2 && areOneCut(p, 0, 2) ? 0 : way;
+        Check.due("fewest(" + p + ", 0) by " + way, x.fewest(p, 0), 2);
+        Check.due("fewest(" + p + ", 1) by " + way, x.fewest(p, 1), least);
+    }
+
+    /** One bit of each part: its last where the shape has a 1, else its first. */
+    private static long firstOrLastBits(int p, int way, int shape) {
+        long bits = 0L;
+        for (int part = 0; part < p; part++) {
+            boolean last = (shape >> part & 1) != 0;
+            bits |= 1L << (last ? beginOf(p, way, part + 1) - 1 : beginOf(p, way, part));
+        }
+        return bits;
+    }
+
+    private static boolean othersHaveUntouched(int p, int way, long bits) {
+        for (int other = 0; other < 3; other++) {
+            if (!areOneCut(p, way, other) && !hasUntouched(p, other, bits)) {
+                return false;
             }
         }
-        Check.holds("there are marks for " + p + " parts, way " + way, false);
-        return 1L;
+        return true;
     }
 
     /** With one bit left over the first part has it both by way 0 and by way 2. */

@@ -155,6 +155,9 @@ public final class MarksTest {
         better.see(1);
         Check.due("told(11)", better.told(11), 4);
         Check.due("told(13), one that it can't be", better.told(13), 4);
+        // From 1 they are apart by 1, 63, 0, 64, 2; from 0 and from all ones two are alike.
+        NearMarks wide = Make.with(0x0L, -1L, 0x1L, -2L, 0x2L);
+        Check.due("told(13) with 64 apart", wide.told(13), 2);
         Check.due("told(13) of one mark", Make.with(9L).told(13), NearMarks.NONE);
     }
 
@@ -242,6 +245,12 @@ public final class MarksTest {
         Check.due("mark(1, 3) by reach 7", x.mark(1, 3), 2);
         Check.due("mark(2, 3) by reach 7", x.mark(2, 3), 2);
         Check.due("mark(3, 4) by eight parts", x.mark(3, 4), 1);
+        x.hold(1);
+        x.cut(0x11L);
+        Check.due("mark(2, 4): a part of ones alike", x.mark(2, 4), 1);
+        x.cut(0x9L);
+        Check.due("mark(2, 4): a part of ones alike", x.mark(2, 4), 1);
+        Check.due("mark(0, 4): none alike", x.mark(0, 4), 0);
         Check.due("mark(4, 0)", x.mark(4, 0), NearMarks.UNKNOWN);
         Check.due("mark(4, 9)", x.mark(4, 9), NearMarks.UNKNOWN);
         for (int k : WRONG) {
