@@ -10,7 +10,6 @@ public final class AskedTest {
         promise22();
         promise23();
         promise24();
-        promise24ofThreeCuts();
         nothingChangesByAsking();
         Check.end();
     }
@@ -176,87 +175,12 @@ public final class AskedTest {
             Check.due("fewest(1, " + number + ")", x.fewest(1, number), NearMarks.OUTSIDE);
         }
         Check.due("told(1) after it", x.told(1), 4);
-    }
-
-    /**
-     * For each way to cut: marks that differ in one bit of each of its parts, but leave a part of
-     * each other cut alike, so that by this way alone one is not looked at for the other.
-     */
-    private static void promise24ofThreeCuts() {
-        for (int p : new int[] {3, 5, 6, 7}) {
-            for (int way = 0; way < 3; way++) {
-                int found = 0;
-                for (int shape = 0; shape < 1 << p; shape++) {
-                    long bits = firstOrLastBits(p, way, shape);
-                    if (othersHaveUntouched(p, way, bits)) {
-                        found++;
-                        fewestIs(p, way, bits);
-                    }
-                }
-                Check.holds("there are marks for " + p + " parts, way " + way, found > 0);
-            }
-        }
         NearMarks alike = Make.with(0x0L, 0x1L);
         Check.due("fewest(7, 1) of like ones", alike.fewest(7, 1), 0);
         Check.due("fewest(7, 0) of like ones", alike.fewest(7, 0), 4);
         NearMarks ones = Make.with(-1L, -2L, 0xFFL);
         Check.due("fewest(2, 0), parts of ones alike", ones.fewest(2, 0), 5);
         Check.due("fewest(8, 0), parts of ones alike", ones.fewest(8, 0), 7);
-    }
-
-    private static void fewestIs(int p, int way, long bits) {
-        NearMarks x = Make.with(0x0L, bits);
-        int least = way == 2 && areOneCut(p, 0, 2) ? 0 : way;
-        Check.due("fewest(" + p + ", 0) by " + way, x.fewest(p, 0), 2);
-        Check.due("fewest(" + p + ", 1) by " + way, x.fewest(p, 1), least);
-    }
-
-    /** One bit of each part: its last where the shape has a 1, else its first. */
-    private static long firstOrLastBits(int p, int way, int shape) {
-        long bits = 0L;
-        for (int part = 0; part < p; part++) {
-            boolean last = (shape >> part & 1) != 0;
-            bits |= 1L << (last ? beginOf(p, way, part + 1) - 1 : beginOf(p, way, part));
-        }
-        return bits;
-    }
-
-    private static boolean othersHaveUntouched(int p, int way, long bits) {
-        for (int other = 0; other < 3; other++) {
-            if (!areOneCut(p, way, other) && !hasUntouched(p, other, bits)) {
-                return false;
-            }
-        }
-        return true;
-    }
-
-    /** With one bit left over the first part has it both by way 0 and by way 2. */
-    private static boolean areOneCut(int p, int way, int other) {
-        return way == other || 64 % p == 1 && way != 1 && other != 1;
-    }
-
-    private static boolean hasUntouched(int p, int way, long bits) {
-        for (int part = 0; part < p; part++) {
-            boolean touched = false;
-            for (int bit = beginOf(p, way, part); bit < beginOf(p, way, part + 1); bit++) {
-                touched |= (bits >>> bit & 1L) != 0;
-            }
-            if (!touched) {
-                return true;
-            }
-        }
-        return false;
-    }
-
-    /** The begins of the cuts that are not alike, written out by hand from the document. */
-    private static int beginOf(int p, int way, int part) {
-        int[][] three = {{0, 22, 43, 64}, {0, 21, 42, 64}, {0, 22, 43, 64}};
-        int[][] five = {{0, 13, 26, 39, 52, 64}, {0, 12, 25, 38, 51, 64}, {0, 13, 26, 39, 51, 64}};
-        int[][] six = {{0, 11, 22, 33, 44, 54, 64}, {0, 10, 20, 31, 42, 53, 64}, {0, 11, 22, 33, 43, 54, 64}};
-        int[][] seven = {{0, 10, 19, 28, 37, 46, 55, 64}, {0, 9, 18, 27, 36, 45, 54, 64},
-            {0, 10, 19, 28, 37, 46, 55, 64}};
-        int[][] cuts = p == 3 ? three : p == 5 ? five : p == 6 ? six : seven;
-        return cuts[way][part];
     }
 
     private static void nothingChangesByAsking() {

@@ -3,27 +3,32 @@ final class Check {
     private static final int MOST_PRINTED = 40;
     private static int asked = 0;
     private static int wrong = 0;
+    private static String sentence = "";
 
     private Check() {
     }
 
+    /** What follows is held to this sentence of the document. */
+    static void under(String said) {
+        sentence = said;
+    }
+
     static void due(String call, long got, long want) {
-        asked++;
-        if (got != want) {
-            wrong++;
-            if (wrong <= MOST_PRINTED) {
-                System.out.println(call + " answered " + got + ", due is " + want);
-            }
-        }
+        count(got == want, call + " answered " + got + ", due is " + want);
     }
 
     static void holds(String what, boolean so) {
+        count(so, what + " does not hold");
+    }
+
+    private static void count(boolean right, String fault) {
         asked++;
-        if (!so) {
-            wrong++;
-            if (wrong <= MOST_PRINTED) {
-                System.out.println(what + " does not hold");
-            }
+        if (right) {
+            return;
+        }
+        wrong++;
+        if (wrong <= MOST_PRINTED) {
+            System.out.println(sentence.isEmpty() ? fault : "[" + sentence + "] " + fault);
         }
     }
 

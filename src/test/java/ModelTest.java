@@ -4,6 +4,7 @@ import java.util.Random;
 public final class ModelTest {
     private static final int RUNS = 400;
     private static final int CALLS = 512;
+    private static final int MOST_AT_ONCE = 2;
     private static final int[] EDGES = {Integer.MIN_VALUE, -2, -1, 40, 41, 63, 64, 65, 255, 256, Integer.MAX_VALUE};
 
     private final Random random;
@@ -12,6 +13,7 @@ public final class ModelTest {
     private final Model m = new Model();
     /** How much of a run is putting in, so that some runs have full stores and some nearly empty ones. */
     private final int fullness;
+    private int calls = 0;
 
     private ModelTest(int run) {
         this.run = run;
@@ -22,7 +24,7 @@ public final class ModelTest {
     public static void main(String[] args) {
         for (int run = 0; run < RUNS; run++) {
             ModelTest test = new ModelTest(run);
-            for (int call = 0; call < CALLS; call++) {
+            while (test.calls + MOST_AT_ONCE <= CALLS) {
                 test.callOne();
             }
         }
@@ -30,6 +32,7 @@ public final class ModelTest {
     }
 
     private void due(String call, long got, long want) {
+        calls++;
         Check.due("run " + run + ": " + call, got, want);
     }
 
