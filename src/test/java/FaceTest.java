@@ -1,11 +1,16 @@
+import java.io.IOException;
 import java.lang.reflect.Constructor;
 import java.lang.reflect.Field;
 import java.lang.reflect.Method;
 import java.lang.reflect.Modifier;
+import java.nio.file.Files;
+import java.nio.file.Path;
 import java.util.ArrayList;
 import java.util.Arrays;
 import java.util.HashSet;
+import java.util.LinkedHashMap;
 import java.util.List;
+import java.util.Map;
 import java.util.Set;
 import java.util.TreeSet;
 
@@ -20,13 +25,46 @@ public final class FaceTest {
         "int write(int,int,int)", "int tear()", "int seed(int)", "int keep(int)", "int goBack(int)",
     };
 
-    public static void main(String[] args) throws IllegalAccessException {
+    private static final Path SOURCE = Path.of("src/main/java/NearMarks.java");
+
+    public static void main(String[] args) throws IllegalAccessException, IOException {
+        theDocumentsLines();
+        theDocumentsHeadings();
         theClass();
         theConstants();
         theConstructor();
         theMethods();
         theClassesInside();
         Check.end();
+    }
+
+    /** The public lines of the source, bodies left out, are those of the document, in its order. */
+    private static void theDocumentsLines() throws IOException {
+        List<String> lines = new ArrayList<>();
+        for (String line : Files.readAllLines(SOURCE)) {
+            if (line.startsWith("    public ")) {
+                lines.add(line.strip().replaceAll(" \\{$", ";"));
+            }
+        }
+        List<String> face = Doc.face();
+        Check.due("lines of the document's face", face.size(), 1 + 1 + METHODS.length);
+        Check.holds("the source has the document's lines: " + lines, lines.equals(face));
+    }
+
+    private static void theDocumentsHeadings() throws IOException {
+        Map<String, List<String>> headings = new LinkedHashMap<>();
+        List<String> under = new ArrayList<>();
+        for (String line : Files.readAllLines(SOURCE)) {
+            if (line.startsWith("    // ----")) {
+                under = new ArrayList<>();
+                headings.put(line.substring("    // ".length()), under);
+            } else if (line.matches("    public (int|long) .*")) {
+                under.add(line.replaceAll(" *public \\w+ (\\w+)\\(.*", "$1"));
+            }
+        }
+        Check.due("headings of the document", Doc.headings().size(), 5);
+        Check.holds("the source has the document's headings: " + headings, headings.equals(Doc.headings())
+            && new ArrayList<>(headings.keySet()).equals(new ArrayList<>(Doc.headings().keySet())));
     }
 
     private static void theClass() {

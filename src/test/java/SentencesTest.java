@@ -9,11 +9,11 @@ import java.util.Set;
 import java.util.regex.Matcher;
 import java.util.regex.Pattern;
 
-/** Every sentence of the document, from Terms to promise 30, is named by a test that holds to it. */
+/** Every sentence of the document, from the first line to promise 30, is named by a test that holds to it. */
 public final class SentencesTest {
     private static final Path TESTS = Path.of("src/test/java");
     private static final Pattern NAMED =
-        Pattern.compile("Doc\\.(terms|section|promise)\\((?:(\\d+), )?\"([^\"]*)\"\\)");
+        Pattern.compile("Doc\\.(first|terms|section|promise)\\((?:(\\d+), )?\"([^\"]*)\"\\)");
     /** It tells how to read the document; nothing can be asked for it. */
     private static final Set<String> NOTHING_TO_ASK = Set.of("Words in capitals are told where they come first.");
 
@@ -21,7 +21,7 @@ public final class SentencesTest {
 
     public static void main(String[] args) throws IOException {
         Map<String, String> places = Doc.places();
-        Check.due("places in the document", places.size(), 1 + 3 + 30);
+        Check.due("places in the document", places.size(), 1 + 1 + 3 + 30);
         List<Named> all = named();
         for (Map.Entry<String, String> place : places.entrySet()) {
             isNamed(place.getKey(), place.getValue(), all);
@@ -46,7 +46,11 @@ public final class SentencesTest {
     }
 
     private static String placeOf(String kind, String number) {
-        return kind.equals("terms") ? "Terms" : kind + " " + number;
+        switch (kind) {
+            case "first": return "What it is";
+            case "terms": return "Terms";
+            default: return kind + " " + number;
+        }
     }
 
     private static void isNamed(String place, String text, List<Named> all) {
